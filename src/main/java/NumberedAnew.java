@@ -317,7 +317,7 @@ public final class NumberedAnew {
             return NOT_SO;
         }
         int ahead = which.bitsOfAll(GAMMA);
-        int swaps = halver.halve(which, 0, which.size(), r, 0);
+        int swaps = halver.halveAll(which, r);
         told.tellBoth(ahead, which.bitsOfAll(GAMMA));
         return swaps;
     }
@@ -359,7 +359,11 @@ public final class NumberedAnew {
         if (n < 1 || n > MOST_SWAPS) {
             return NONE;
         }
-        int done = swapper.climb(shelf, n);
+        int done = 0;
+        while (done < n && swapper.find(shelf) > 0) {
+            shelf.swap(swapper.first(), swapper.second());
+            done++;
+        }
         told.tell(shelf.bitsOfAll(GAMMA));
         return done;
     }
@@ -567,7 +571,7 @@ public final class NumberedAnew {
         draft.copyFrom(shelf);
         shuffle(draft, seed, n);
         int ahead = draft.bitsOfAll(GAMMA);
-        int swaps = halver.halve(draft, 0, draft.size(), r, 0);
+        int swaps = halver.halveAll(draft, r);
         told.tellBoth(ahead, swaps);
         return draft.bitsOfAll(GAMMA);
     }
@@ -891,7 +895,7 @@ public final class NumberedAnew {
         }
 
         int termsAt(int number) {
-            return termsOf(documentAt(number));
+            return has(number) ? terms[lying[number]] : 0;
         }
 
         int numberOf(int d) {
@@ -970,6 +974,15 @@ public final class NumberedAnew {
                 numbers |= ((termsAt(number) >> term) & 1) << number;
             }
             return numbers;
+        }
+
+        /** How many of a row of documents, as they lie, have a term. */
+        int manyWith(int term, int from, int many) {
+            int having = 0;
+            for (int number = from; number < from + many; number++) {
+                having += (termsAt(number) >> term) & 1;
+            }
+            return having;
         }
 
         int documentsWith(int term) {
@@ -1068,18 +1081,14 @@ public final class NumberedAnew {
             return many;
         }
 
-        static int gammaBits(int gap) {
-            return 2 * digits(gap) - 1;
-        }
-
         static int gapBits(int gap, int code, int documents) {
             switch (code) {
                 case UNARY:
                     return gap;
                 case GAMMA:
-                    return gammaBits(gap);
+                    return 2 * digits(gap) - 1;
                 case DELTA:
-                    return digits(gap) - 1 + gammaBits(digits(gap));
+                    return digits(gap) - 1 + 2 * digits(digits(gap)) - 1;
                 default:
                     return digits(documents);
             }
@@ -1088,11 +1097,11 @@ public final class NumberedAnew {
         static int listBits(int numbers, int code, int documents) {
             int sum = 0;
             int last = NONE;
-            for (int number = 0; number < MOST_DOCUMENTS && (numbers >> number) != 0; number++) {
-                if (((numbers >> number) & 1) == 1) {
-                    sum += gapBits(number - last, code, documents);
-                    last = number;
-                }
+            // The best swap asks this thousands of times, so only the numbers of the list are gone through.
+            for (int rest = numbers; rest != 0; rest &= rest - 1) {
+                int number = Integer.bitCount((rest & -rest) - 1);
+                sum += gapBits(number - last, code, documents);
+                last = number;
             }
             return sum;
         }
@@ -1131,55 +1140,103 @@ public final class NumberedAnew {
         }
     }
 
-    /** HALVING; its rows are by NUMBER and used again by every half. */
+    /** HALVING; gains and ranks are by NUMBER, and all rows are used again by every half. */
     private static final class Halver {
-        /** 16 documents are halved four times at most. */
-        private static final int DEEPEST = 5;
-
+        private final int[] froms = new int[MOST_DOCUMENTS];
+        private final int[] sizes = new int[MOST_DOCUMENTS];
+        private int waiting;
         private final int[] gains = new int[MOST_DOCUMENTS];
         private final int[] ranks = new int[MOST_DOCUMENTS];
-        private final int[] inFirst = new int[TERMS];
-        private final int[] inSecond = new int[TERMS];
+        private final int[] gainsOfFirst = new int[TERMS];
+        private final int[] gainsOfSecond = new int[TERMS];
 
         Halver() {
+            waiting = 0;
         }
 
         static int firstOf(int size) {
             return (size + 1) / 2;
         }
 
+        /** How many swaps there were. */
+        int halveAll(Shelf shelf, int rounds) {
+            int swaps = 0;
+            waiting = 0;
+            putOff(0, shelf.size());
+            // 16 documents make 15 rows of two or more: the whole, its halves, their halves, ..
+            for (int i = 0; i < MOST_DOCUMENTS && waiting > 0; i++) {
+                waiting--;
+                int from = froms[waiting];
+                int size = sizes[waiting];
+                int latest = 1;
+                for (int turn = 0; turn < rounds && latest > 0; turn++) {
+                    measure(shelf, from, size);
+                    latest = swapByGains(shelf, from, size);
+                    swaps += latest;
+                }
+                // What is put off last is taken first: the first half with all its halves.
+                int first = firstOf(size);
+                putOff(from + first, size - first);
+                putOff(from, first);
+            }
+            return swaps;
+        }
+
+        private void putOff(int from, int size) {
+            if (size >= 2 && waiting < MOST_DOCUMENTS) {
+                froms[waiting] = from;
+                sizes[waiting] = size;
+                waiting++;
+            }
+        }
+
+        /** The gains of all documents of a row, before any of them is swapped. */
+        void measure(Shelf shelf, int from, int size) {
+            int first = firstOf(size);
+            int second = size - first;
+            for (int term = 0; term < TERMS; term++) {
+                int inFirst = shelf.manyWith(term, from, first);
+                int inSecond = shelf.manyWith(term, from + first, second);
+                int now = weight(first, inFirst) + weight(second, inSecond);
+                gainsOfFirst[term] = now - weight(first, inFirst - 1) - weight(second, inSecond + 1);
+                gainsOfSecond[term] = now - weight(first, inFirst + 1) - weight(second, inSecond - 1);
+            }
+            for (int i = 0; i < size; i++) {
+                int number = from + i;
+                if (number >= 0 && number < MOST_DOCUMENTS) {
+                    gains[number] = sumOf(shelf.termsAt(number), i < first ? gainsOfFirst : gainsOfSecond);
+                }
+            }
+        }
+
+        private static int weight(int size, int having) {
+            return having < 1 ? 0 : having * Codes.digits(size / (having + 1));
+        }
+
+        private static int sumOf(int terms, int[] byTerm) {
+            int sum = 0;
+            for (int term = 0; term < byTerm.length; term++) {
+                if (((terms >> term) & 1) == 1) {
+                    sum += byTerm[term];
+                }
+            }
+            return sum;
+        }
+
         int gainAt(int number) {
             return number >= 0 && number < MOST_DOCUMENTS ? gains[number] : 0;
         }
 
-        /** How many swaps there were. */
-        int halve(Shelf shelf, int from, int size, int rounds, int depth) {
-            if (size < 2 || depth > DEEPEST) {
-                return 0;
-            }
-            int swaps = 0;
-            int latest = 1;
-            for (int i = 0; i < rounds && latest > 0; i++) {
-                latest = swapOnce(shelf, from, size);
-                swaps += latest;
-            }
-            int first = firstOf(size);
-            swaps += halve(shelf, from, first, rounds, depth + 1);
-            swaps += halve(shelf, from + first, size - first, rounds, depth + 1);
-            return swaps;
-        }
-
         /** Gains are by number and each number swaps once a round, so they hold to the round's end. */
-        private int swapOnce(Shelf shelf, int from, int size) {
-            measure(shelf, from, size);
+        private int swapByGains(Shelf shelf, int from, int size) {
             int first = firstOf(size);
             rank(from, first);
             rank(from + first, size - first);
             int swaps = 0;
             // The second half is never the larger one.
             while (swaps < size - first) {
-                int a = rankAt(from + swaps);
-                int b = rankAt(from + first + swaps);
+                int a = rankedAt(from + swaps);
+                int b = rankedAt(from + first + swaps);
                 if (gainAt(a) + gainAt(b) <= 0) {
                     break;
                 }
@@ -1189,63 +1246,23 @@ public final class NumberedAnew {
             return swaps;
         }
 
-        private int rankAt(int i) {
-            return i >= 0 && i < MOST_DOCUMENTS ? ranks[i] : NONE;
-        }
-
-        /** The gains of all documents of a row, before any of them is swapped. */
-        void measure(Shelf shelf, int from, int size) {
-            int first = firstOf(size);
-            countTerms(inFirst, shelf, from, first);
-            countTerms(inSecond, shelf, from + first, size - first);
-            for (int i = 0; i < size; i++) {
-                int number = from + i;
-                if (number >= 0 && number < MOST_DOCUMENTS) {
-                    gains[number] = i < first
-                            ? gainOf(shelf.termsAt(number), inFirst, first, inSecond, size - first)
-                            : gainOf(shelf.termsAt(number), inSecond, size - first, inFirst, first);
-                }
-            }
-        }
-
-        private static void countTerms(int[] counts, Shelf shelf, int from, int size) {
-            for (int term = 0; term < counts.length; term++) {
-                int many = 0;
-                for (int i = 0; i < size; i++) {
-                    many += (shelf.termsAt(from + i) >> term) & 1;
-                }
-                counts[term] = many;
-            }
-        }
-
-        private static int gainOf(int terms, int[] own, int ownSize, int[] other, int otherSize) {
-            int sum = 0;
-            for (int term = 0; term < TERMS && term < own.length && term < other.length; term++) {
-                if (((terms >> term) & 1) == 1) {
-                    sum += weight(ownSize, own[term]) + weight(otherSize, other[term])
-                            - weight(ownSize, own[term] - 1) - weight(otherSize, other[term] + 1);
-                }
-            }
-            return sum;
-        }
-
-        private static int weight(int size, int having) {
-            return having < 1 ? 0 : having * Codes.digits(size / (having + 1));
-        }
-
-        /** The numbers of a half go into their places of the row, the greatest gain first, like ones as they lie. */
+        /** The numbers of a half, the greatest gain first, like ones as they lie. */
         private void rank(int from, int size) {
             if (from < 0 || from + size > MOST_DOCUMENTS) {
                 return;
             }
-            for (int i = from; i < from + size; i++) {
-                int hole = i;
-                while (hole > from && gainAt(ranks[hole - 1]) < gains[i]) {
+            for (int number = from; number < from + size; number++) {
+                int hole = number;
+                while (hole > from && gainAt(ranks[hole - 1]) < gains[number]) {
                     ranks[hole] = ranks[hole - 1];
                     hole--;
                 }
-                ranks[hole] = i;
+                ranks[hole] = number;
             }
+        }
+
+        private int rankedAt(int i) {
+            return i >= 0 && i < MOST_DOCUMENTS ? ranks[i] : NONE;
         }
     }
 
@@ -1300,16 +1317,6 @@ public final class NumberedAnew {
                 }
             }
             return off;
-        }
-
-        /** How many swaps were done. */
-        int climb(Shelf shelf, int most) {
-            int done = 0;
-            while (done < most && find(shelf) > 0) {
-                shelf.swap(first, second);
-                done++;
-            }
-            return done;
         }
     }
 
