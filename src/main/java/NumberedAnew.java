@@ -210,15 +210,19 @@ public final class NumberedAnew {
         if (!isTerm(term)) {
             return NONE;
         }
-        int ways = Codes.setsOf(shelf.size(), Integer.bitCount(shelf.listOf(term)));
+        int ways = waysOf(term);
         told.tell(ways);
         return Codes.bitsToTell(ways);
+    }
+
+    private int waysOf(int term) {
+        return Codes.setsOf(shelf.size(), Integer.bitCount(shelf.listOf(term)));
     }
 
     public int audit() {
         int sum = 0;
         for (int term = 0; term < TERMS; term++) {
-            sum += Codes.bitsToTell(Codes.setsOf(shelf.size(), Integer.bitCount(shelf.listOf(term))));
+            sum += Codes.bitsToTell(waysOf(term));
         }
         told.begin();
         for (int code = 0; code < CODES; code++) {
@@ -259,12 +263,12 @@ public final class NumberedAnew {
 
     public int swaps(int a, int b) {
         before.copyFrom(shelf);
-        return remembered(swapped(a, b));
+        return remembered(relaid(a, b, false));
     }
 
     public int moves(int a, int b) {
         before.copyFrom(shelf);
-        return remembered(moved(a, b));
+        return remembered(relaid(a, b, true));
     }
 
     public int best() {
@@ -331,7 +335,7 @@ public final class NumberedAnew {
         return shelf.unlike(draft);
     }
 
-    private int swapped(int a, int b) {
+    private int relaid(int a, int b, boolean moving) {
         if (!shelf.has(a) || !shelf.has(b)) {
             return NONE;
         }
@@ -339,19 +343,11 @@ public final class NumberedAnew {
             return NOT_SO;
         }
         int ahead = shelf.bitsOfAll(GAMMA);
-        shelf.swap(a, b);
-        return LIFT + ahead - shelf.bitsOfAll(GAMMA);
-    }
-
-    private int moved(int a, int b) {
-        if (!shelf.has(a) || !shelf.has(b)) {
-            return NONE;
+        if (moving) {
+            shelf.move(a, b);
+        } else {
+            shelf.swap(a, b);
         }
-        if (a == b) {
-            return NOT_SO;
-        }
-        int ahead = shelf.bitsOfAll(GAMMA);
-        shelf.move(a, b);
         return LIFT + ahead - shelf.bitsOfAll(GAMMA);
     }
 
@@ -543,9 +539,9 @@ public final class NumberedAnew {
     private int actAt(int p) {
         switch (text.signAt(p)) {
             case 's':
-                return swapped(text.pairAt(p + 1), text.pairAt(p + 3));
+                return relaid(text.pairAt(p + 1), text.pairAt(p + 3), false);
             case 'm':
-                return moved(text.pairAt(p + 1), text.pairAt(p + 3));
+                return relaid(text.pairAt(p + 1), text.pairAt(p + 3), true);
             case 'h':
                 return halved(shelf, text.digitAt(p + 1));
             case 'o':
@@ -1144,11 +1140,11 @@ public final class NumberedAnew {
     private static final class Halver {
         private final int[] froms = new int[MOST_DOCUMENTS];
         private final int[] sizes = new int[MOST_DOCUMENTS];
-        private int waiting;
         private final int[] gains = new int[MOST_DOCUMENTS];
         private final int[] ranks = new int[MOST_DOCUMENTS];
         private final int[] gainsOfFirst = new int[TERMS];
         private final int[] gainsOfSecond = new int[TERMS];
+        private int waiting;
 
         Halver() {
             waiting = 0;

@@ -101,6 +101,9 @@ final class AnewTest {
         NumberedAnew three = Due.with("-;a;-");
         Due.due("gain(1) of three", three.gain(1), 1001);
         Due.row("gain(1) of three", three, 1);
+        NumberedAnew two = Due.with("a;b");
+        Due.due("gain(1) of two", two.gain(1), 1000);
+        Due.row("gain(1) of two", two, 2);
         NumberedAnew one = Due.with("a");
         Due.due("gain(0) of one", one.gain(0), -2);
         Due.due("gain(1) of one", one.gain(1), -1);

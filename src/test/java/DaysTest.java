@@ -44,6 +44,8 @@ final class DaysTest {
         Due.due("c21", Due.day(x, "c21"), 0);
         Due.row("c21", x, 1, 7);
         Due.due("m9999", Due.day(x, "m9999"), 0);
+        Due.due("s1211", Due.day(x, "s1211"), 0);
+        Due.due("m1112", Due.day(x, "m1112"), 0);
         Due.due("s1100", Due.day(x, "s1100"), 1);
         Due.row("s1100", x, 0, 13);
         NumberedAnew halved = Due.with("a;b;b;b;a;a");
@@ -106,18 +108,30 @@ final class DaysTest {
     private static void promise37All() {
         NumberedAnew x = Due.with("a;b;b;b;a;a");
         Due.order(x, "050403020100");
+        int[][] ahead = new int[9][];
+        ahead[2] = lying(x);
         x.halves(1);
+        ahead[3] = lying(x);
         x.sorts(0);
+        ahead[4] = lying(x);
         x.swaps(0, 5);
+        ahead[5] = lying(x);
         x.moves(0, 5);
+        x.moves(3, 1);
+        x.undo();
+        ahead[6] = lying(x);
         x.climbs(1);
-        Due.day(x, "o3o3");
+        ahead[7] = lying(x);
+        Due.day(x, "o3");
+        ahead[8] = lying(x);
         Due.documents(x, "h");
         Due.due("count(2)", x.count(2), 9);
         Due.due("undo() of documents()", x.undo(), 8);
         Due.terms("undo() of documents()", x, 1, 2, 2, 2, 1, 1);
+        Due.lie("undo() of documents()", x, ahead[8]);
         for (int left = 7; left >= 2; left--) {
             Due.due("undo()", x.undo(), left);
+            Due.lie("undo() with " + left + " left", x, ahead[left]);
         }
         Due.lie("undo() of halves()", x, 5, 4, 3, 2, 1, 0);
         Due.due("undo() of order()", x.undo(), 1);
@@ -133,6 +147,14 @@ final class DaysTest {
         x.sheet(0, 1, 1, 1);
         x.forget();
         Due.due("count(2)", x.count(2), 0);
+    }
+
+    private static int[] lying(NumberedAnew x) {
+        int[] lying = new int[x.count(0)];
+        for (int number = 0; number < lying.length; number++) {
+            lying[number] = x.at(number);
+        }
+        return lying;
     }
 
     private static void promise37Day() {

@@ -96,6 +96,9 @@ final class FoundTest {
         NumberedAnew tied = Due.with("a;b;a;b");
         Due.due("likeness() of equal pairs", tied.likeness(), 994);
         Due.row("likeness() of equal pairs", tied, -2, 0);
+        NumberedAnew two = Due.with("ab;ac");
+        Due.due("likeness() of two", two.likeness(), 1008);
+        Due.row("likeness() of two", two, 8, 0);
         NumberedAnew one = Due.with("a");
         one.list(0);
         Due.due("likeness() of one", one.likeness(), -2);

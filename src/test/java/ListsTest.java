@@ -89,6 +89,9 @@ final class ListsTest {
         NumberedAnew gamma = Due.with("a;-;-;-;-;-;-;-;a;a;-;-;-;-;-;-");
         Due.due("shortest(0) of gaps 1, 8, 1", gamma.shortest(0), 1);
         Due.row("shortest(0) of gaps 1, 8, 1", gamma, 9);
+        NumberedAnew first = Due.with("a;a;-");
+        Due.due("shortest(0) of equal ones", first.shortest(0), 0);
+        Due.row("shortest(0) of equal ones", first, 2);
         NumberedAnew three = Due.with("-;-;a");
         Due.due("shortest(0) of a gap 3 of 3", three.shortest(0), 3);
         Due.row("shortest(0) of a gap 3 of 3", three, 2);
