@@ -819,7 +819,7 @@ public final class NumberedAnew {
             while (p < text.length()) {
                 int act = text.signAt(p);
                 int signs = signsOfAct(act);
-                if (signs == 0) {
+                if (signs < 1) {
                     return p;
                 }
                 for (int i = 1; i < signs; i++) {
@@ -891,7 +891,8 @@ public final class NumberedAnew {
         }
 
         int termsAt(int number) {
-            return has(number) ? terms[lying[number]] : 0;
+            int d = number >= 0 && number < size ? lying[number] : NONE;
+            return d >= 0 && d < size ? terms[d] : 0;
         }
 
         int numberOf(int d) {
@@ -1066,12 +1067,15 @@ public final class NumberedAnew {
 
     /** What is counted of numbers and of sets alone; lists are bits by number. */
     private static final class Codes {
+        /** Of an int above 0. */
+        private static final int MOST_DIGITS = 31;
+
         private Codes() {
         }
 
         static int digits(int number) {
             int many = 0;
-            for (int rest = number; rest > 0; rest >>= 1) {
+            while (many < MOST_DIGITS && (number >> many) > 0) {
                 many++;
             }
             return many;
@@ -1093,11 +1097,13 @@ public final class NumberedAnew {
         static int listBits(int numbers, int code, int documents) {
             int sum = 0;
             int last = NONE;
+            int rest = numbers;
             // The best swap asks this thousands of times, so only the numbers of the list are gone through.
-            for (int rest = numbers; rest != 0; rest &= rest - 1) {
+            for (int left = Integer.bitCount(numbers); left > 0; left--) {
                 int number = Integer.bitCount((rest & -rest) - 1);
                 sum += gapBits(number - last, code, documents);
                 last = number;
+                rest &= rest - 1;
             }
             return sum;
         }
