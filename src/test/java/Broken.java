@@ -21,7 +21,7 @@ import javax.tools.ToolProvider;
 
 /**
  * Breaks the class in one place at a time and tells which of these faults no edge shows. It is no test of the class but
- * of its edges, takes a quarter of an hour, and is run by hand: README.md says how.
+ * of its edges, takes some ten minutes, and is run by hand: README.md says how.
  */
 final class Broken {
     private static final Path SOURCE = Path.of("src/main/java/NumberedAnew.java");
